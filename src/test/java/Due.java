@@ -70,6 +70,37 @@ final class Due {
         return all.append(schools.fault()).append(' ').append(schools.began()).toString();
     }
 
+    /** What can be seen of a step back: the day, where pots are, which are moored, what all know. */
+    private static String step(PotSchools schools) {
+        StringBuilder step = new StringBuilder();
+        int[] counts = {4, 6, 7, 8, 10};
+        for (int what : counts) {
+            step.append(schools.count(what)).append(' ');
+        }
+        for (int child = 0; child < schools.count(3); child++) {
+            step.append(schools.child(child, 0)).append('/').append(schools.child(child, 3)).append(' ');
+        }
+        return step.toString();
+    }
+
+    /**
+     * All that an object holds, its row of acts, its slots and its seed too, as one text.
+     * The object is spent by it: every act is undone, every slot gone on from.
+     */
+    static String spent(PotSchools schools) {
+        StringBuilder all = new StringBuilder(seen(schools));
+        all.append(" seed ").append(schools.seed(0));
+        int left = schools.undo();
+        for (int i = 0; i < 20 && left >= 0; i++) {
+            all.append(" undo ").append(left).append(": ").append(step(schools));
+            left = schools.undo();
+        }
+        for (int slot = 0; slot < 2; slot++) {
+            all.append(" again ").append(schools.again(slot)).append(": ").append(step(schools));
+        }
+        return all.append(" knew ").append(schools.forget()).toString();
+    }
+
     static void same(String what, String got, String want) {
         asked++;
         if (!got.equals(want)) {
