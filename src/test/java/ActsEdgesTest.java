@@ -399,7 +399,7 @@ public final class ActsEdgesTest {
     private static void rowGoesRound() {
         PotSchools x = Due.coast("ST1T3T0T2Gb00Gf10Ca0Cb1");
         List<String> ahead = new ArrayList<>();
-        int[] turns = {20, -5, 7, -14, 3, -3, 16, -1, 1, -14};
+        int[] turns = {16, -5, 7, -14, 3, -3, 15, -1, 1, -14};
         for (int turn : turns) {
             for (int i = 0; i < Math.abs(turn); i++) {
                 if (turn > 0) {

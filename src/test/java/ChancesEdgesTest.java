@@ -181,8 +181,10 @@ public final class ChancesEdgesTest {
 
     // "and MOORED": whether they are now or not.
     private static void restsMoored() {
-        PotSchools x = Due.coast("ST1Ga00Gb01Ca0Cl0");
+        // Not moored they would go from the weed in c to the crab in d, and have no more by the one than the other.
+        PotSchools x = Due.coast("ST1Gc00Gd01Ca0Cl0");
         rested(x, 0, 1, 1, 0);
+        rested(x, 1, 0, 1, 0);
         x.moor(0);
         rested(x, 0, 1, 1, 0);
         x.moor(1);
