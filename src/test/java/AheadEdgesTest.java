@@ -14,6 +14,7 @@ public final class AheadEdgesTest {
         enoughOfMuch();
         bestAtTheEnds();
         bestOfLikeOnes();
+        bestWithinTheCoast();
         bestLeftThere();
         bestMooredAsItIs();
         bestAmongOthers();
@@ -169,6 +170,16 @@ public final class AheadEdgesTest {
         Due.is("how much", Due.coast("SCl0").best(0, 1, 1), 0);
         Due.is("of two weeds", Due.coast("SGk00Gj10Ca0").best(0, 5, 0), 9);
         Due.is("of a row that all drifts to d", Due.coast("ST1T1T1T1Gd01Cl0").best(0, 4, 0), 0);
+    }
+
+    // "CELLS are 0 to 11": none lies farther out, from where a tide could come in to i.
+    private static void bestWithinTheCoast() {
+        PotSchools x = Due.coast("ST2Gi00Gl01Ca0");
+        Due.is("best, a tide that takes all in", x.best(0, 1, 0), 0);
+        Due.is("how much", x.best(0, 1, 1), 0);
+        PotSchools out = Due.coast("ST3Ga00Gd01Ca0");
+        Due.is("best, a tide that takes all out", out.best(0, 1, 0), 0);
+        Due.is("how much", out.best(0, 1, 1), 0);
     }
 
     // "SET there (or left there) now"

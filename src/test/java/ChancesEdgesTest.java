@@ -13,6 +13,7 @@ public final class ChancesEdgesTest {
         shareOfSix();
         shareInSixDays();
         shareFromNowOn();
+        shareOnASmallerCoast();
         restsWithoutGrounds();
         restsOfOneGround();
         restsOfSixGrounds();
@@ -21,6 +22,8 @@ public final class ChancesEdgesTest {
         restsMoored();
         restsAmongOthers();
         restsOfShyOnes();
+        restsBesideAShyOne();
+        restsOnASmallerCoast();
         failsNever();
         failsAlways();
         failsByTenths();
@@ -130,6 +133,21 @@ public final class ChancesEdgesTest {
         shared(shy, 0, 1, 0, 1);
     }
 
+    /** Nothing of a larger coast is left when a smaller one is asked about. */
+    private static void shareOnASmallerCoast() {
+        PotSchools x = Due.coast("SGa00Gb00Gc00Gd00Ge00Gf00Ca0");
+        for (int ground = 0; ground < 6; ground++) {
+            shared(x, ground, 0, ground == 0 ? 6 : 0, 1);
+        }
+        Due.write(x, "SGa00Gb01Ca0");
+        x.coast();
+        shared(x, 0, 0, 6, 1);
+        shared(x, 1, 0, 0, 1);
+        Due.write(x, "SGa01Ca0");
+        x.coast();
+        shared(x, 0, 0, 3, 1);
+    }
+
     private static void rested(PotSchools x, int one, int other, int many, int first) {
         Due.is("rests(" + one + ", " + other + ", 0)", x.rests(one, other, 0), many);
         Due.is("rests(" + one + ", " + other + ", 1)", x.rests(one, other, 1), first);
@@ -218,6 +236,28 @@ public final class ChancesEdgesTest {
         ghosts.day();
         // Each knows 1: in a it has 6, with a ghost 0, both in one 1.
         rested(ghosts, 0, 1, 1, 0);
+    }
+
+    /** The plain one has the weed, whatever the shy one does; the shy one has the crab then. */
+    private static void restsBesideAShyOne() {
+        PotSchools first = Due.coast("SGa00Gb01Gc02Gd02Ge02Gf02Cl0Cl3");
+        rested(first, 0, 1, 1, 1);
+        rested(first, 1, 0, 1, 10);
+        PotSchools last = Due.coast("SGa02Gb02Gc02Gd02Ge01Gf00Cl0Cl3");
+        rested(last, 0, 1, 1, 54);
+        rested(last, 1, 0, 1, 45);
+    }
+
+    /** Nothing of a larger coast is left when a smaller one is asked about. */
+    private static void restsOnASmallerCoast() {
+        PotSchools x = Due.coast("SGa00Gb00Gc00Gd00Ge00Gf00Cl1Cl1");
+        rested(x, 0, 1, 36, 0);
+        Due.write(x, "SGa01Gb01Cl0Cl0");
+        x.coast();
+        rested(x, 0, 1, 4, 0);
+        Due.write(x, "SCl0Cl0");
+        x.coast();
+        rested(x, 0, 1, 0, NONE);
     }
 
     private static void failed(PotSchools x, int v, int n, int tenths, int above, int below) {
